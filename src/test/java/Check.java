@@ -20,6 +20,14 @@ final class Check {
         due(what, got ? 1 : 0, want ? 1 : 0);
     }
 
+    /** Two rows of the same answers, as Snapshot makes them. */
+    void same(String what, long[] got, long[] want) {
+        due(what + ": how many answers", got.length, want.length);
+        for (int i = 0; i < Math.min(got.length, want.length); i++) {
+            due(what + ": answer " + i + " of the snapshot", got[i], want[i]);
+        }
+    }
+
     void end() {
         System.out.println(test + ": " + asked + " answers, " + wrong + " not as due");
         if (wrong != 0 || asked == 0) {

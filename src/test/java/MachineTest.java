@@ -138,33 +138,8 @@ public final class MachineTest {
 
     private static void same(ClearedExchange x, ClearedExchange y) {
         CHECK.due("messages", x.messages(), y.messages());
-        CHECK.due("trades", x.trades(), y.trades());
-        for (int member = 0; member < 5; member++) {
-            CHECK.due("cash", x.cash(member), y.cash(member));
-            CHECK.due("share", x.share(member), y.share(member));
-            CHECK.due("spare", x.spare(member), y.spare(member));
-            CHECK.due("defaulter", x.defaulter(member), y.defaulter(member));
-            for (int contract = 0; contract < 2; contract++) {
-                CHECK.due("position", x.position(member, contract), y.position(member, contract));
-                CHECK.due("cost", x.cost(member, contract), y.cost(member, contract));
-            }
-        }
-        for (int contract = 0; contract < 2; contract++) {
-            CHECK.due("phase", x.phase(contract), y.phase(contract));
-            CHECK.due("last", x.last(contract), y.last(contract));
-            CHECK.due("best buy", x.best(contract, true), y.best(contract, true));
-            CHECK.due("best sell", x.best(contract, false), y.best(contract, false));
-        }
-        for (int order = 1; order < 9; order++) {
-            CHECK.due("left", x.state(order, 0), y.state(order, 0));
-            CHECK.due("state", x.state(order, 1), y.state(order, 1));
-        }
-        for (int k = 0; k < 16; k++) {
-            for (int w = 0; w < 5; w++) {
-                CHECK.due("trade", x.trade(k, w), y.trade(k, w));
-            }
-        }
-        for (int k = 0; k < 20; k++) {
+        CHECK.same("after a stop and without one", Snapshot.of(x), Snapshot.of(y));
+        for (int k = 0; k < 30; k++) {
             CHECK.due("reply", x.reply(k), y.reply(k));
         }
     }
@@ -223,18 +198,20 @@ public final class MachineTest {
         CHECK.due("wrong trade", x.trade(99, 9), -9);
     }
 
-    /** Going down and recovering after each message leaves what a run without it leaves. */
+    /** Going down and recovering at each message leaves what a run without it leaves, however long the run is. */
     private static void recoversTheWholeState() {
-        ClearedExchange cut = prepared();
-        ClearedExchange whole = prepared();
-        for (int message = 0; message < 9; message++) {
-            cut.light(1);
-            send(cut, message);
-            cut.recover();
-            cut.light(0);
-            send(cut, message);
-            cut.recover();
-            send(whole, message);
+        for (int count = 1; count <= 9; count++) {
+            ClearedExchange cut = prepared();
+            ClearedExchange whole = prepared();
+            for (int message = 0; message < count; message++) {
+                cut.light(0);
+                send(cut, message);
+                cut.recover();
+                cut.light(1);
+                send(cut, message);
+                cut.recover();
+                send(whole, message);
+            }
             same(cut, whole);
         }
     }

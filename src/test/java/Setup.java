@@ -34,4 +34,27 @@ final class Setup {
         x.order(0, 0, true, LIMIT, 100, 50);
         return x;
     }
+
+    /** The same, and member 0 could not pay: it is a defaulter, and the house has its position. */
+    static ClearedExchange withDefaulter() {
+        ClearedExchange x = withPositions(1000);
+        x.settle(70, 100);
+        return x;
+    }
+
+    /** An object of which every question has something to tell: 18 messages, 8 orders, 1 trade. */
+    static ClearedExchange busy() {
+        ClearedExchange x = withPositions(100000);
+        x.deposit(2, 100000);
+        x.contribute(1, 300);
+        x.contribute(2, 200);
+        x.endow(400);
+        x.order(1, 0, true, LIMIT, 90, 5);
+        x.order(2, 0, false, LIMIT, 110, 6);
+        x.order(1, 0, true, STOP, 150, 2);
+        x.order(2, 1, true, LIMIT, 80, 7);
+        x.order(3, 1, false, LIMIT, 120, 8);
+        x.order(3, 1, false, STOP, 50, 3);
+        return x;
+    }
 }
