@@ -22,8 +22,11 @@ public final class LossEdgeTest {
         greatNumbersAreSharedExactly();
         defaultersPayNoPart();
         howManyBecameDefaulters();
+        allItsOrdersAreDone();
         closingFillsWhatItCan();
+        closingOfASale();
         closingInCall();
+        stopsAfterEachClosing();
         CHECK.end();
     }
 
@@ -275,8 +278,8 @@ public final class LossEdgeTest {
         x.order(2, 1, false, Setup.LIMIT, 100, 1);
         x.open(1);
         x.withdraw(1, (int) x.cash(1) - 10);
-        CHECK.due("settle", x.settle(89, 86), 1);
-        leaves("a loss of 4", x, 0, 5, 0, 1, 1);
+        CHECK.due("settle", x.settle(89, 85), 1);
+        leaves("a loss of 5", x, 0, 5, 0, 0, 1);
     }
 
     /** Promise 10: "how many members became defaulters". */
@@ -297,6 +300,23 @@ public final class LossEdgeTest {
         }
     }
 
+    /** "All its orders are DONE (what is left lapses)": the first, the last and those between others' too. */
+    private static void allItsOrdersAreDone() {
+        for (int mark = 79; mark <= 80; mark++) {
+            ClearedExchange x = Setup.withPositions(1000);
+            for (int i = 0; i < 9; i++) {
+                int kind = i % 3 == 1 ? Setup.STOP : Setup.LIMIT;
+                x.order(i % 2 == 0 ? 0 : 1, i % 2, false, kind, kind == Setup.STOP ? 5 : 500, 1 + i);
+            }
+            CHECK.due("settle", x.settle(mark, 100), mark == 79 ? 1 : 0);
+            for (int i = 0; i < 9; i++) {
+                int active = i % 3 == 1 ? 1 : 0;
+                CHECK.due("state of " + i, x.state(3 + i, 1), i % 2 == 0 && mark == 79 ? 2 : active);
+                CHECK.due("left of " + i, x.state(3 + i, 0), 1 + i);
+            }
+        }
+    }
+
     /** "For all its position, to bring it to 0": with 1 less, just as much and 1 more on the other side. */
     private static void closingFillsWhatItCan() {
         for (int quantity = 49; quantity <= 51; quantity++) {
@@ -311,6 +331,31 @@ public final class LossEdgeTest {
             CHECK.due("left of its order", x.state(4, 0), quantity == 51 ? 1 : 0);
             CHECK.due("position", x.position(0, 0), 0);
             CHECK.due("capital", x.cash(4), -500 - 10 * Math.min(quantity, 50));
+        }
+    }
+
+    /** The same for a position of -1 and for one of -2, with 0, 1, 2 and 3 to buy. */
+    private static void closingOfASale() {
+        for (int position = -2; position <= -1; position++) {
+            for (int offered = 0; offered <= 3; offered++) {
+                ClearedExchange x = new ClearedExchange(0);
+                x.deposit(0, 10);
+                x.deposit(1, 1000);
+                x.open(1);
+                x.order(0, 1, false, Setup.LIMIT, 100, -position);
+                x.order(1, 1, true, Setup.LIMIT, 100, -position);
+                if (offered > 0) {
+                    x.order(1, 1, false, Setup.LIMIT, 130, offered);
+                }
+                int met = Math.min(offered, -position);
+                CHECK.due("settle", x.settle(100, 120), 1);
+                CHECK.due("position", x.position(0, 1), 0);
+                CHECK.due("house's position", x.position(4, 1), position + met);
+                CHECK.due("house's cost", x.cost(4, 1), 120 * (position + met));
+                CHECK.due("capital", x.cash(4), 10 + 20 * position - 10 * met);
+                CHECK.due("last", x.last(1), met > 0 ? 130 : 100);
+                CHECK.due("what is still offered", x.volume(1, false, 130), offered - met);
+            }
         }
     }
 
@@ -331,6 +376,26 @@ public final class LossEdgeTest {
             CHECK.due("house's position when OPEN", x.position(4, 1 - closed), 0);
             CHECK.due("the order in CALL rests", x.state(closed == 0 ? 3 : 6, 1), 0);
             CHECK.due("capital", x.cash(4), 1000 - 1200 - 100);
+        }
+    }
+
+    /** "After each closing": a stop that the closing just reaches is met before the next closing. */
+    private static void stopsAfterEachClosing() {
+        int[] states = {1, 2, 2};
+        for (int i = 0; i < 3; i++) {
+            ClearedExchange x = Setup.opened(1000);
+            x.deposit(3, 10000);
+            for (int contract = 0; contract < 2; contract++) {
+                x.order(3, contract, false, Setup.LIMIT, 100, 10);
+                x.order(0, contract, true, Setup.LIMIT, 100, 10);
+                x.order(3, contract, true, Setup.LIMIT, 30, 12);
+            }
+            x.order(2, 0, false, Setup.STOP, 29 + i, 2);
+            CHECK.due("settle", x.settle(40, 40), 1);
+            CHECK.due("a sell stop at " + (29 + i), x.state(7, 1), states[i]);
+            CHECK.due("trades", x.trades(), states[i] == 2 ? 5 : 4);
+            CHECK.due("the latest is the closing of contract 1", x.trade(0, 2), 1);
+            CHECK.due("before it the stop, or the closing of contract 0", x.trade(1, 1), states[i] == 2 ? 2 : 0);
         }
     }
 }

@@ -15,6 +15,7 @@ public final class MatchEdgeTest {
         buyStopPrices();
         sellStopPrices();
         endsOfTheStopPrices();
+        stopsMeetEveryPrice();
         stopsByThePhase();
         auctionPricesOrHigher();
         auctionByVolume();
@@ -200,6 +201,20 @@ public final class MatchEdgeTest {
         CHECK.due("a LAST of 1000 for a sell at 999", stopAfterLast(false, 999, 1000), 1);
     }
 
+    /** "The one with the least number becomes MARKET": its price allows every price then. */
+    private static void stopsMeetEveryPrice() {
+        for (int price : new int[] {1, 99, 100, 101, 1000}) {
+            for (int side = 0; side < 2; side++) {
+                ClearedExchange x = Setup.withPositions(10000);
+                x.order(2, 0, side == 0, Setup.LIMIT, price, 3);
+                x.order(1, 0, side == 1, Setup.STOP, 100, 4);
+                CHECK.due("a stop at 100 meets " + price, x.last(0), price);
+                CHECK.due("its rest lapses", x.state(4, 0), 1);
+                CHECK.due("it is done", x.state(4, 1), 2);
+            }
+        }
+    }
+
     /** "The waiting stops of contracts that are OPEN". */
     private static void stopsByThePhase() {
         ClearedExchange x = Setup.withPositions(10000);
@@ -269,6 +284,8 @@ public final class MatchEdgeTest {
         auction("99 and 102", 1, 99, new int[] {0, 1, 102, 5}, new int[] {1, 0, 99, 5});
         auction("100 and 101", 1, 100, new int[] {0, 1, 101, 5}, new int[] {1, 0, 100, 5});
         auction("99 and 100", 1, 100, new int[] {0, 1, 100, 5}, new int[] {1, 0, 99, 5});
+        auction("98 taken before 101", 1, 101, new int[] {1, 0, 98, 5}, new int[] {0, 1, 101, 5});
+        auction("99 taken before 102", 1, 99, new int[] {1, 0, 99, 5}, new int[] {0, 1, 102, 5});
         int[] last = {200, 200, 202};
         for (int i = 0; i < 3; i++) {
             ClearedExchange x = inAuction(new int[][] {{0, 1, 202, 5}, {1, 0, 200, 5}});

@@ -17,6 +17,7 @@ public final class RefusalEdgeTest {
         coverAtTheMarkNotThePrice();
         coverBesideAPosition();
         coverByGains();
+        coverOfOneThatIsNotCovered();
         coverOfAnOrderThatWouldTradeAtOnce();
         withdrawDownToNoCash();
         withdrawDownToTheCover();
@@ -256,6 +257,25 @@ public final class RefusalEdgeTest {
         CHECK.due("50 less 5 lost less 25", y.spare(0), 20);
         CHECK.due("5 more require 25", y.order(0, 1, true, Setup.LIMIT, 90, 5), -5);
         CHECK.due("4 more require 20", y.order(0, 1, true, Setup.LIMIT, 90, 4), 3);
+    }
+
+    /** A member that is not covered has all orders refused, those too that add nothing to its exposure. */
+    private static void coverOfOneThatIsNotCovered() {
+        for (int cash = 4; cash <= 6; cash++) {
+            for (int side = 0; side < 2; side++) {
+                boolean buy = side == 1;
+                ClearedExchange x = Setup.opened(10 + cash);
+                x.deposit(1, 1000);
+                x.order(1, 0, !buy, Setup.LIMIT, 100, 1);
+                x.order(0, 0, buy, Setup.LIMIT, 100, 1);
+                // It has lost 10, and 1 at the mark of 90 or 110 requires 4.5 or 5.5, rounded up.
+                x.settle(buy ? 90 : 110, 100);
+                int need = buy ? 5 : 6;
+                CHECK.due("spare with " + cash, x.spare(0), cash - need);
+                int due = cash < need ? -5 : 3;
+                CHECK.due("an order to close it with " + cash, x.order(0, 0, !buy, Setup.LIMIT, 100, 1), due);
+            }
+        }
     }
 
     /** "With it resting": what it would meet at once does not count. */
