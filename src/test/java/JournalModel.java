@@ -16,6 +16,8 @@ final class JournalModel {
     private Model model;
     private Integer fuse = null;
     private boolean down = false;
+    /** How many stops the latest message let loose. */
+    int loosed = 0;
 
     JournalModel(int argument) {
         this.argument = argument;
@@ -23,6 +25,7 @@ final class JournalModel {
     }
 
     int send(int[] m) {
+        loosed = 0;
         if (down) {
             return -9;
         }
@@ -37,6 +40,7 @@ final class JournalModel {
         journal.add(m.clone());
         int reply = model.act(m);
         replies.add(reply);
+        loosed = model.loosed;
         return burn() ? reply : -9;
     }
 

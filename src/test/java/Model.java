@@ -29,6 +29,8 @@ final class Model {
     final int[] phase = new int[2];
     final List<Ord> orders = new ArrayList<>();
     final List<int[]> trades = new ArrayList<>();
+    /** How many stops the latest message let loose. */
+    int loosed = 0;
 
     Model(int argument) {
         rate = 500 + 100 * (argument & 15);
@@ -36,6 +38,7 @@ final class Model {
 
     /** Does a message, given as its kind (0 deposit, .. 8 settle) and its numbers, and answers its reply. */
     int act(int[] m) {
+        loosed = 0;
         int reply = apply(m);
         stops();
         return reply;
@@ -195,6 +198,7 @@ final class Model {
             if (reached.isEmpty()) {
                 return;
             }
+            loosed++;
             reached.get().kind = 4;
             reached.get().state = 2;
             match(reached.get());

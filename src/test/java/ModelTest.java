@@ -16,10 +16,15 @@ public final class ModelTest {
     private final int spread;
     private final int cash;
     private final int fuses;
+    /** Some runs begin with an ordinary day's calls; the others begin anywhere. */
+    private final boolean isOrdinary;
+    /** In some runs marks leap so far that several members can't pay at once. */
+    private final boolean isWild;
 
     /** How often each answer to an order was given, by number less 9 (taken ones at 9), and other rare things. */
     private static final int[] ORDER_ANSWERS = new int[11];
-    private static int defaults = 0;
+    private static final int[] DEFAULTS = new int[5];
+    private static int chains = 0;
     private static int auctionTrades = 0;
     private static int falls = 0;
 
@@ -31,6 +36,8 @@ public final class ModelTest {
         spread = 1 + random.nextInt(20);
         cash = 100 + random.nextInt(seed % 3 == 0 ? 20000 : 2000);
         fuses = seed % 4 == 0 ? 20 : seed % 4 == 1 ? 4 : 0;
+        isOrdinary = seed % 5 != 4;
+        isWild = seed % 7 == 3;
     }
 
     public static void main(String[] args) {
@@ -40,7 +47,11 @@ public final class ModelTest {
         for (int answer : new int[] {-9, -7, -6, -5, -4, -3, -2, -1, 1}) {
             CHECK.due("orders answered " + answer + " are seen", ORDER_ANSWERS[answer + 9] > 0, true);
         }
-        CHECK.due("defaults are seen", defaults > 100, true);
+        CHECK.due("settlements with a default are seen", DEFAULTS[1] > 100, true);
+        CHECK.due("settlements with two are seen", DEFAULTS[2] > 100, true);
+        CHECK.due("settlements with three are seen", DEFAULTS[3] > 10, true);
+        CHECK.due("cash adds up to 0 or more before the first default, so four at once are never seen", DEFAULTS[4], 0);
+        CHECK.due("messages that let several stops loose are seen", chains > 100, true);
         CHECK.due("auctions with trades are seen", auctionTrades > 100, true);
         CHECK.due("the machine was seen to go down", falls > 100, true);
         CHECK.end();
@@ -53,6 +64,7 @@ public final class ModelTest {
             long got = ofExchange(c);
             CHECK.due("run " + seed + " call " + call + " " + Arrays.toString(c), got, want);
             count(c, want);
+            chains += c[0] < 9 && model.loosed > 1 ? 1 : 0;
             if (got != want) {
                 return;
             }
@@ -63,13 +75,15 @@ public final class ModelTest {
         if (c[0] == 4) {
             ORDER_ANSWERS[(int) Math.min(answer, 1) + 9]++;
         }
-        defaults += c[0] == 8 && answer > 0 ? 1 : 0;
+        if (c[0] == 8 && answer >= 0) {
+            DEFAULTS[(int) answer]++;
+        }
         auctionTrades += c[0] == 7 && answer > 0 ? 1 : 0;
         falls += c[0] == RECOVER && answer >= 0 ? 1 : 0;
     }
 
     private int[] nextCall(int call) {
-        if (call < 6) {
+        if (isOrdinary && call < 6) {
             return call < 4 ? new int[] {0, call, cash} : new int[] {7, call - 4};
         }
         if (model.down() && random.nextInt(3) == 0) {
@@ -132,7 +146,11 @@ public final class ModelTest {
         if (pick < 90) {
             return new int[] {pick < 76 ? 6 : 7, contract()};
         }
-        return new int[] {8, price(), price()};
+        return new int[] {8, mark(), mark()};
+    }
+
+    private int mark() {
+        return isWild ? 40 + random.nextInt(121) : price();
     }
 
     private int[] question() {
