@@ -19,6 +19,7 @@ public final class LanguageTest {
     private static final Path SOURCE = Path.of("src/main/java/ClearedExchange.java");
     private static final String OUTER = "ClearedExchange";
 
+    /** What the rules forbid, and what the class does without so that they need not be looked at further. */
     private static final String[] FORBIDDEN = {
         // 2, 3: no lambda, no method reference, no types but the listed ones
         "->", "::", "\\bimport\\b", "\\bpackage\\b", "\\bObject\\b", "\\bdouble\\b", "\\bfloat\\b", "\\bvar\\b",
